@@ -376,6 +376,7 @@ public final class MailQueries {
         private static final int FIRST_YEAR = 1970;
         private static final int LAST_YEAR = 2999;
         private static final int LEAP_DAYS_TILL_1969 = 477;
+        private static final int[] DAYS_BEFORE = {0, 31, 59, 90, 120, 151, 181, 212, 243, 273, 304, 334, 365};
 
         private int least = 0;
         private int greatest = 0;
@@ -405,93 +406,76 @@ public final class MailQueries {
         }
 
         private static long valueOf(Query query, int from, int to, boolean isDate) {
-            if (!isDate) {
-                return bytesOf(query, from, to);
-            }
-            return to - from == 8 ? dayOf(query, from) : daysAgo(query, from, to);
-        }
-
-        private static long bytesOf(Query query, int from, int to) {
             int unit = query.byteAt(to - 1);
-            boolean hasUnit = unit == 'k' || unit == 'm';
-            long count = numberOf(query, from, hasUnit ? to - 1 : to, 7);
-            if (count == BAD) {
-                return BAD;
-            }
-            long times = !hasUnit ? 1 : unit == 'k' ? 1024 : 1048576;
-            return Math.min(count * times, OPEN_GREATEST);
-        }
-
-        private static long daysAgo(Query query, int from, int to) {
-            long count = numberOf(query, from, to - 1, 3);
-            int days = daysOfUnit(query.byteAt(to - 1));
-            return count == BAD || count == 0 || days == 0 ? BAD : -count * days;
-        }
-
-        private static int daysOfUnit(int unit) {
-            switch (unit) {
-                case 'd':
-                    return 1;
-                case 'w':
-                    return 7;
-                case 'm':
-                    return 30;
-                case 'y':
-                    return 365;
-                default:
-                    return 0;
-            }
-        }
-
-        private static long dayOf(Query query, int from) {
-            long number = numberOf(query, from, from + 8, 8);
+            int digits = isDigit(unit) ? to - from : to - 1 - from;
+            long number = numberOf(query, from, digits);
             if (number == BAD) {
                 return BAD;
             }
-            int year = (int) (number / 10000);
-            int month = (int) (number / 100 % 100);
-            int day = (int) (number % 100);
-            if (year < FIRST_YEAR || year > LAST_YEAR || day < 1 || day > daysIn(year, month)) {
-                return BAD;
+            if (!isDate) {
+                boolean isUnit = isDigit(unit) || unit == 'k' || unit == 'm';
+                return digits <= 7 && isUnit ? bytesOf(number, unit) : BAD;
             }
-            long days = 365L * (year - FIRST_YEAR) + leapDaysTill(year - 1) - LEAP_DAYS_TILL_1969;
-            for (int m = 1; m < month; m++) {
-                days += daysIn(year, m);
+            if (isDigit(unit)) {
+                return digits == 8 ? dayOf((int) number) : BAD;
             }
-            return days + day - 1;
+            return digits <= 3 && number > 0 ? daysAgo(number, unit) : BAD;
         }
 
-        private static int leapDaysTill(int year) {
-            return year / 4 - year / 100 + year / 400;
-        }
-
-        private static int daysIn(int year, int month) {
-            switch (month) {
-                case 1: case 3: case 5: case 7: case 8: case 10: case 12:
-                    return 31;
-                case 4: case 6: case 9: case 11:
-                    return 30;
-                case 2:
-                    return 28 + leapDaysTill(year) - leapDaysTill(year - 1);
-                default:
-                    return 0;
-            }
-        }
-
-        /** The number of one to most digits that is all of the text, or BAD. */
-        private static long numberOf(Query query, int from, int to, int most) {
-            if (to - from < 1 || to - from > most) {
+        /** The number that one to eight digits make, or BAD if they are no digits. */
+        private static long numberOf(Query query, int from, int digits) {
+            if (digits < 1 || digits > 8 || from < 0 || from + digits > query.length) {
                 return BAD;
             }
             long number = 0;
-            for (int at = from; at < to; at++) {
-                int b = query.byteAt(at);
-                if (!isDigit(b)) {
+            for (int i = 0; i < digits; i++) {
+                int digit = query.text[from + i] - '0';
+                if (digit < 0 || digit > 9) {
                     return BAD;
                 }
-                number = number * 10 + (b - '0');
+                number = number * 10 + digit;
             }
             return number;
+        }
+
+        private static long bytesOf(long number, int unit) {
+            long bytes = unit == 'k' ? number * 1024 : unit == 'm' ? number * 1048576 : number;
+            return bytes > OPEN_GREATEST ? OPEN_GREATEST : bytes;
+        }
+
+        private static long daysAgo(long number, int unit) {
+            switch (unit) {
+                case 'd':
+                    return -number;
+                case 'w':
+                    return -number * 7;
+                case 'm':
+                    return -number * 30;
+                case 'y':
+                    return -number * 365;
+                default:
+                    return BAD;
+            }
+        }
+
+        private static long dayOf(int date) {
+            int year = date / 10000;
+            int month = date / 100 % 100;
+            int day = date % 100;
+            if (year < FIRST_YEAR || year > LAST_YEAR || month < 1 || month > 12 || day < 1) {
+                return BAD;
+            }
+            boolean isLeap = year % 4 == 0 && (year % 100 != 0 || year % 400 == 0);
+            int days = DAYS_BEFORE[month] - DAYS_BEFORE[month - 1];
+            if (day > (isLeap && month == 2 ? days + 1 : days)) {
+                return BAD;
+            }
+            int before = year - 1;
+            int leapDays = before / 4 - before / 100 + before / 400 - LEAP_DAYS_TILL_1969;
+            if (isLeap && month > 2) {
+                leapDays++;
+            }
+            return 365 * (year - FIRST_YEAR) + leapDays + DAYS_BEFORE[month - 1] + day - 1;
         }
     }
 
@@ -553,19 +537,16 @@ public final class MailQueries {
             if (b == ')') {
                 return takeClosing(at);
             }
-            if (b == '"') {
-                return takeText(NO_FIELD, at, at);
-            }
-            if (!isTextByte(b)) {
+            if (b != '"' && !isTextByte(b)) {
                 return fail(NO_WORD, at);
             }
-            int colon = pastLetters(at);
-            if (colon > at && query.byteAt(colon) == ':') {
-                return takeField(at, colon);
+            int letters = pastLetters(at);
+            if (letters > at && query.byteAt(letters) == ':') {
+                return takeAtom(fieldOf(at, letters), at, letters + 1);
             }
             int to = pastTextBytes(at);
             int sign = signOf(at, to);
-            return sign == NONE ? takeText(NO_FIELD, at, at) : takeSign(sign, at, to);
+            return sign == NONE ? takeAtom(NO_FIELD, at, at) : takeSign(sign, at, to);
         }
 
         private int takeOpening(int at) {
@@ -599,22 +580,10 @@ public final class MailQueries {
             return to;
         }
 
-        private int takeField(int at, int colon) {
-            int field = fieldOf(at, colon);
-            if (field == NONE) {
-                return fail(UNKNOWN_FIELD, at);
+        private int takeAtom(int field, int at, int textAt) {
+            if (field != NO_FIELD && !isBegun(field, at, textAt)) {
+                return NONE;
             }
-            if (query.isFull()) {
-                return fail(TOO_MANY, at);
-            }
-            int b = query.byteAt(colon + 1);
-            if (b != '"' && !isTextByte(b)) {
-                return fail(MISPLACED, colon + 1);
-            }
-            return takeText(field, at, colon + 1);
-        }
-
-        private int takeText(int field, int at, int textAt) {
             boolean isPhrase = query.byteAt(textAt) == '"';
             int from = isPhrase ? textAt + 1 : textAt;
             int to = isPhrase ? query.find('"', from, query.length) : pastTextBytes(from);
@@ -632,6 +601,19 @@ public final class MailQueries {
             query.take(field, isPhrase, from, to, span);
             operandDue = false;
             return isPhrase ? to + 1 : to;
+        }
+
+        /** Whether a field may stand there and a text begins just behind its : . */
+        private boolean isBegun(int field, int at, int textAt) {
+            int b = query.byteAt(textAt);
+            if (field == NONE) {
+                fail(UNKNOWN_FIELD, at);
+            } else if (query.isFull()) {
+                fail(TOO_MANY, at);
+            } else if (b != '"' && !isTextByte(b)) {
+                fail(MISPLACED, textAt);
+            }
+            return faultKind == 0;
         }
 
         private void beginAny() {
@@ -961,7 +943,7 @@ public final class MailQueries {
         private final int[] setMiddle = new int[MAX_ATOMS + 1];
         private int sets = 0;
         private final int[] asked = new int[MAX_TREE];
-        private final Pile pile = new Pile(MAX_TREE);
+        private final Pile pile = new Pile(MAX_ATOMS + 1);
         private final long[] keptPlain = new long[MAX_ROWS];
         private final long[] keptNegated = new long[MAX_ROWS];
         private int kept = 0;
