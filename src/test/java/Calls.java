@@ -2,22 +2,33 @@ import java.nio.charset.StandardCharsets;
 
 /** What the tests share: a text put into an object, answers compared, wrong ones counted. */
 final class Calls {
+    /** What read(x, text) answers if read() throws what the document names. */
+    static final int THROWN = -100;
+
+    private static final int NONE = MailQueries.NONE;
+
     private static int wrong = 0;
+    private static String sentence = "";
 
     private Calls() {
+    }
+
+    /** The words of the document that the checks from here on hold to; wrong answers are told with them. */
+    static void sentence(String words) {
+        sentence = "[" + words + "] ";
     }
 
     static void due(String what, long got, long want) {
         if (got != want) {
             wrong++;
-            System.out.println(what + " answered " + got + ", due is " + want);
+            System.out.println(sentence + what + " answered " + got + ", due is " + want);
         }
     }
 
     static void due(String what, String got, String want) {
         if (!got.equals(want)) {
             wrong++;
-            System.out.println(what + " answered '" + got + "', due is '" + want + "'");
+            System.out.println(sentence + what + " answered '" + got + "', due is '" + want + "'");
         }
     }
 
@@ -46,23 +57,72 @@ final class Calls {
         }
     }
 
-    /** What read() answers for a text; -100 if it throws what the document names. */
+    /** What read() answers for a text; THROWN if it throws what the document names. */
     static int read(MailQueries x, String text) {
         put(x, text);
         try {
             return x.read();
         } catch (IllegalArgumentException e) {
-            return -100;
+            return THROWN;
         }
     }
 
     static MailQueries of(String text) {
         MailQueries x = new MailQueries();
-        if (read(x, text) == -100) {
+        if (read(x, text) == THROWN) {
             wrong++;
-            System.out.println("a fault in " + text + ": " + x.fault(0) + " at " + x.fault(1));
+            System.out.println(sentence + "a fault in " + text + ": " + x.fault(0) + " at " + x.fault(1));
         }
         return x;
+    }
+
+    /** A text without a fault that has so many different atoms. */
+    static void reads(String text, int atoms) {
+        MailQueries x = new MailQueries();
+        due("read() of " + text, read(x, text), atoms);
+        due("fault(0) of " + text, x.fault(0), 0);
+        due("fault(1) of " + text, x.fault(1), NONE);
+    }
+
+    static void faulty(String text, int kind, int place) {
+        MailQueries x = new MailQueries();
+        due("read() of " + text, read(x, text), THROWN);
+        due("fault(0) of " + text, x.fault(0), kind);
+        due("fault(1) of " + text, x.fault(1), place);
+    }
+
+    static void trees(String text, String tree) {
+        due("the tree of " + text, tree(of(text)), tree);
+    }
+
+    static void prints(String text, String printed) {
+        MailQueries x = of(text);
+        due("print() of " + text, printed(x, x.print()), printed);
+    }
+
+    static void ranges(String text, int least, int greatest) {
+        MailQueries x = of(text);
+        due("range(0, 0) of " + text, x.range(0, 0), least);
+        due("range(0, 1) of " + text, x.range(0, 1), greatest);
+    }
+
+    static void normals(String text, int count, String rows) {
+        MailQueries x = of(text);
+        due("normal() of " + text, x.normal(), count);
+        due("the rows of " + text, rows(x, count), rows);
+    }
+
+    static void normalCounts(String text, int count) {
+        due("normal() of " + text, of(text).normal(), count);
+    }
+
+    /** The atoms A0, A1, .. A9, B0, .. with these numbers, with a sign between them. */
+    static String joined(String sign, int from, int to) {
+        StringBuilder all = new StringBuilder();
+        for (int i = from; i < to; i++) {
+            all.append(i > from ? sign : "").append((char) ('A' + i / 10)).append(i % 10);
+        }
+        return all.toString();
     }
 
     static String tree(MailQueries x) {

@@ -348,7 +348,7 @@ public final class OracleTest {
         int read = Calls.read(x, text);
         Calls.due("fault(0) of " + text, x.fault(0), kind);
         Calls.due("fault(1) of " + text, x.fault(1), place);
-        Calls.due("read() of " + text, read, kind == 0 ? plain.keys.size() : -100);
+        Calls.due("read() of " + text, read, kind == 0 ? plain.keys.size() : Calls.THROWN);
         if (kind == 0 && x.fault(0) == 0 && all != null) {
             compareAnswers(x, text, plain, all);
         }
