@@ -343,6 +343,9 @@ public final class FormsTest {
         Calls.normalCounts(seven + (" xor " + seven).repeat(3), 0);
         Calls.normalCounts(seven + (" xor " + seven).repeat(4), 64);
         Calls.normalCounts("not " + either(seven + (" xor " + seven).repeat(4)), 64);
+        // With 128 of each, two of them make 256 rows, when 1,280 stand in all.
+        String eight = either(Calls.joined(" xor ", 0, 8));
+        Calls.normalCounts(eight + (" xor " + eight).repeat(4), NONE);
     }
 
     private static void normalOnlyAsAsked() {
