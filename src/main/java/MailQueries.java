@@ -34,8 +34,7 @@ public final class MailQueries {
     private final char[] hand = new char[MAX_TEXT];
     private int handLength = 0;
     private Query query = new Query();
-    private Query spare = new Query();
-    private final Reader reader = new Reader(spare);
+    private final Reader reader = new Reader();
     private final Printer printer = new Printer();
     private final Rows rows = new Rows();
     private final Judge judge = new Judge();
@@ -71,14 +70,12 @@ public final class MailQueries {
     }
 
     public int read() throws IllegalArgumentException {
-        spare.begin(hand, handLength);
+        boolean isWhole = reader.takesIn(hand, handLength);
         handLength = 0;
-        if (!reader.fills(spare)) {
+        if (!isWhole) {
             throw new IllegalArgumentException("the text has a fault");
         }
-        Query filled = spare;
-        spare = query;
-        query = filled;
+        query = reader.exchange(query);
         return query.different;
     }
 
@@ -480,12 +477,12 @@ public final class MailQueries {
     }
 
     /**
-     * Reads a text word by word into its query's atoms and tree. The signs stand ahead of what they
-     * join, so a sign is put in where its first operand begins: that place is held for each ( that is
-     * open, and for each of or, xor and and.
+     * Reads a text word by word into the atoms and tree of a query of its own, so that a fault leaves the
+     * one in use alone. The signs stand ahead of what they join, so a sign is put in where its first
+     * operand begins: that place is held for each ( that is open, and for each of or, xor and and.
      */
     private static final class Reader {
-        private Query query;
+        private Query query = new Query();
         private final Span span = new Span();
         private int faultKind = 0;
         private int faultPlace = NONE;
@@ -495,12 +492,15 @@ public final class MailQueries {
         private final int[] xorFrom = new int[MAX_OPEN + 1];
         private final int[] andFrom = new int[MAX_OPEN + 1];
 
-        Reader(Query first) {
-            query = first;
+        /** What was read, for a query that is no longer in use: the next text is read into that one. */
+        Query exchange(Query old) {
+            Query filled = query;
+            query = old;
+            return filled;
         }
 
-        boolean fills(Query empty) {
-            query = empty;
+        boolean takesIn(char[] bytes, int count) {
+            query.begin(bytes, count);
             faultKind = 0;
             faultPlace = NONE;
             operandDue = true;
