@@ -1,4 +1,5 @@
 import java.io.IOException;
+import java.lang.reflect.Constructor;
 import java.lang.reflect.Field;
 import java.lang.reflect.Method;
 import java.lang.reflect.Modifier;
@@ -29,6 +30,7 @@ public final class LanguageTest {
         for (Class<?> one : classes) {
             fields(one);
             methods(one);
+            constructors(one);
         }
         String source = Files.readString(Path.of(SOURCE));
         words(source);
@@ -73,6 +75,16 @@ public final class LanguageTest {
             Calls.due(name + " has a name of the face", FACE.contains(m.getName()), isFace);
             Calls.sentence("rule 11: a method takes at most seven parameters");
             Calls.due(name + " takes more than seven", m.getParameterCount() > 7, false);
+        }
+    }
+
+    /** All objects are made in the constructor of one that holds them, so what they are given it hands out. */
+    private static void constructors(Class<?> one) {
+        Calls.sentence("rule 12: a constructor hands out nothing of the object that it makes");
+        for (Constructor<?> c : one.getDeclaredConstructors()) {
+            for (Class<?> given : c.getParameterTypes()) {
+                Calls.due(c + " is given numbers alone", given.isPrimitive(), true);
+            }
         }
     }
 
